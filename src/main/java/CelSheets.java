@@ -472,7 +472,7 @@ public final class CelSheets {
     private static int commonDivisor(int a, int b) {
         int high = a;
         int low = b;
-        // Euclid's steps on ints are fewer than 50
+        // Euclid's steps on ints are always fewer than 50
         for (int i = 0; i < 64 && low != 0; i++) {
             int rest = high % low;
             high = low;
@@ -909,7 +909,7 @@ public final class CelSheets {
             for (int i = 0; i < reel.levels; i++) {
                 met |= 1 << levelInOrder(order, i);
             }
-            return met == (1 << reel.levels) - 1 && (reel.levels > 0 || order == 0);
+            return met == (1 << reel.levels) - 1;
         }
 
         /** The level at a place of an order, counted from the top, of which there is one for each level. */

@@ -9,7 +9,7 @@ import java.util.Map;
  * The document told again as directly as can be, by other means than the class: sets of columns, all
  * orders of levels one by one, whole states kept for each act. Slow, and only for comparing.
  */
-final class Model {
+final class Model implements Calls {
     /** All that acts change; copied whole for each act. */
     static final class State {
         int[] x = new int[0];
@@ -66,14 +66,14 @@ final class Model {
 
     // ---- the reel
 
-    int write(int letter) {
+    @Override public int write(int letter) {
         if (letter < 0 || letter > 255) return -2;
         if (text.length() == 80) return -4;
         text.append((char) letter);
         return text.length();
     }
 
-    int wipe() {
+    @Override public int wipe() {
         int n = text.length();
         text.setLength(0);
         return n;
@@ -149,13 +149,13 @@ final class Model {
         }
     }
 
-    int fault() {
+    @Override public int fault() {
         Parse p = new Parse(text.toString());
         p.reel();
         return p.bad ? p.at : -9;
     }
 
-    int reel() {
+    @Override public int reel() {
         if (fault() != -9) return -3;
         Parse p = new Parse(text.toString());
         p.reel();
@@ -172,7 +172,7 @@ final class Model {
         return levels();
     }
 
-    int drawing(int d, int what) {
+    @Override public int drawing(int d, int what) {
         if (!isDrawing(d)) return -1;
         if (what < 0 || what > 2) return -2;
         return what == 0 ? now.x[d] : what == 1 ? now.width[d] : most(d);
@@ -194,7 +194,7 @@ final class Model {
         return sum;
     }
 
-    int level(int l, int what) {
+    @Override public int level(int l, int what) {
         if (!isLevel(l)) return -1;
         if (what < 0 || what > 3) return -2;
         if (what == 0) return sheets.get(l).size();
@@ -260,7 +260,7 @@ final class Model {
         return now.pan[pan][0] + steps * now.pan[pan][1];
     }
 
-    int where(int l, int f) {
+    @Override public int where(int l, int f) {
         if (l != 9 && !isLevel(l)) return -1;
         if (!frame(f)) return -2;
         return 1000 + whereIs(l == 9 ? levels() : l, f);
@@ -273,7 +273,7 @@ final class Model {
         if (before.size() > 14) before.removeFirst();
     }
 
-    int redraw(int d, int x, int w) {
+    @Override public int redraw(int d, int x, int w) {
         if (!isDrawing(d)) return -1;
         if (x < 0 || x > 9 || w < 1 || w > 5) return -2;
         act();
@@ -283,7 +283,7 @@ final class Model {
         return was;
     }
 
-    int delay(int l, int v) {
+    @Override public int delay(int l, int v) {
         if (!isLevel(l)) return -1;
         if (v < 0 || v > 9) return -2;
         act();
@@ -292,7 +292,7 @@ final class Model {
         return was;
     }
 
-    int pan(int l, int start, int by, int every) {
+    @Override public int pan(int l, int start, int by, int every) {
         if (l != 9 && !isLevel(l)) return -1;
         if (start < -9 || start > 9 || by < -3 || by > 3 || every < 1 || every > 9) return -2;
         act();
@@ -314,7 +314,7 @@ final class Model {
         return new String(s).equals("0123".substring(0, levels()));
     }
 
-    int swap(int f, int order) {
+    @Override public int swap(int f, int order) {
         if (!frame(f) || !isOrder(order)) return -2;
         if (now.switches.size() == 4) return -4;
         act();
@@ -322,14 +322,14 @@ final class Model {
         return now.switches.size();
     }
 
-    int back() {
+    @Override public int back() {
         if (now.switches.isEmpty()) return -3;
         act();
         now.switches.remove(now.switches.size() - 1);
         return now.switches.size();
     }
 
-    int undo() {
+    @Override public int undo() {
         if (before.isEmpty()) return -3;
         now = before.removeLast();
         return before.size();
@@ -343,13 +343,13 @@ final class Model {
         return g < 0 || g >= s.size() ? -9 : s.get(g);
     }
 
-    int exposed(int l, int f) {
+    @Override public int exposed(int l, int f) {
         if (!isLevel(l)) return -1;
         if (!frame(f)) return -2;
         return exposedOn(l, f);
     }
 
-    int order(int f) {
+    @Override public int order(int f) {
         if (!frame(f)) return -2;
         for (int g = f; g >= 0; g--) {
             for (int i = now.switches.size() - 1; i >= 0; i--) {
@@ -373,12 +373,12 @@ final class Model {
         return -9;
     }
 
-    int look(int f, int c) {
+    @Override public int look(int f, int c) {
         if (!frame(f) || !window(c)) return -2;
         return seenOf(15, f, c, -1);
     }
 
-    int ask(int what) {
+    @Override public int ask(int what) {
         if (what == 1) return cels();
         if (what != 0) return -2;
         int n = 0;
@@ -394,7 +394,7 @@ final class Model {
         return n;
     }
 
-    int judge(int n, long row) {
+    @Override public int judge(int n, long row) {
         if (n < 1 || n > 4 || row < 0 || Long.toString(row).length() > 4 * n) return -2;
         String s = "0".repeat(4 * n - Long.toString(row).length()) + row;
         State was = now;
@@ -428,20 +428,20 @@ final class Model {
 
     // ---- seen
 
-    int see(int f, int c, int v) {
+    @Override public int see(int f, int c, int v) {
         if (!frame(f) || !window(c) || (v != -9 && (v < 0 || v > 39))) return -2;
         if (seen.size() == 6) return -4;
         seen.add(new int[] {f, c, v});
         return seen.size();
     }
 
-    int unsee() {
+    @Override public int unsee() {
         int n = seen.size();
         seen.clear();
         return n;
     }
 
-    int which() {
+    @Override public int which() {
         int bits = 0;
         for (int d = 0; d < drawings(); d++) {
             boolean all = true;
@@ -481,7 +481,7 @@ final class Model {
         }
     }
 
-    int share(int l, boolean upper) {
+    @Override public int share(int l, boolean upper) {
         if (!isLevel(l)) return -1;
         int[] by = new int[16];
         for (int b = 0; b < 1 << levels(); b++) by[b] = covered(b);
@@ -500,7 +500,7 @@ final class Model {
         return part(sum, all.size(), upper);
     }
 
-    int lost(int f, int c, int x, boolean upper) {
+    @Override public int lost(int f, int c, int x, boolean upper) {
         if (!frame(f) || !window(c) || x < 0 || x > 10) return -2;
         long above = 0;
         for (int b = 0; b < 1 << levels(); b++) {
@@ -511,13 +511,13 @@ final class Model {
         return part(above, (long) Math.pow(10, levels()), upper);
     }
 
-    long seed(long v) {
+    @Override public long seed(long v) {
         long was = seed;
         seed = v;
         return was;
     }
 
-    int looks(int m) {
+    @Override public int looks(int m) {
         if (m < 1 || m > 40) return -2;
         int n = 0;
         for (int i = 0; i < m; i++) {
@@ -530,13 +530,13 @@ final class Model {
 
     // ---- places to keep in
 
-    int keep(int slot) {
+    @Override public int keep(int slot) {
         if (slot != 0 && slot != 1) return -1;
         kept[slot] = now.copy();
         return now.switches.size();
     }
 
-    int again(int slot) {
+    @Override public int again(int slot) {
         if (slot != 0 && slot != 1) return -1;
         if (kept[slot] == null) return -3;
         now = kept[slot].copy();
@@ -544,7 +544,7 @@ final class Model {
         return now.switches.size();
     }
 
-    int count(int what) {
+    @Override public int count(int what) {
         List<Integer> all = List.of(text.length(), drawings(), levels(), now.switches.size(), before.size(), seen.size());
         return what < 0 || what > 5 ? -2 : all.get(what);
     }

@@ -4,15 +4,15 @@ import java.util.Random;
 /** Runs of random calls (the same ones each time), each answer held against the model's. */
 public final class ModelTest {
     private static final int RUNS = 1500;
-    private static final int CALLS = 500;
+    /** Room for the longest of what is called at one go besides a reel. */
+    private static final int CALLS = Desk.MOST_CALLS - 20;
     private static final int[] ODD = {Integer.MIN_VALUE, Integer.MAX_VALUE, -1000, -10, -2, -1, 4, 5, 6, 8, 10, 11, 40, 41, 48, 100, 12345};
 
     private final Check check;
     private final Random random;
     private final String run;
-    private final CelSheets x = new CelSheets();
+    private final Desk x = new Desk();
     private final Model m = new Model();
-    private int calls = 0;
 
     private ModelTest(Check check, int seed) {
         this.check = check;
@@ -27,16 +27,16 @@ public final class ModelTest {
     }
 
     private void go() {
-        while (calls < CALLS) {
-            if (calls == 0 || random.nextInt(60) == 0) tellReel();
+        tellReel();
+        while (x.calls() < CALLS) {
+            if (random.nextInt(60) == 0) tellReel();
             else if (random.nextInt(5) < 2) doAct();
             else askOne();
         }
     }
 
     private void due(String call, long got, long want) {
-        calls++;
-        check.due(run + calls + " of reel " + m.text + ": " + call, got, want);
+        check.due(run + x.calls() + " of reel " + m.text + ": " + call, got, want);
     }
 
     /** From lo to hi, and now and then something far off. */
@@ -87,6 +87,8 @@ public final class ModelTest {
     private void tellReel() {
         if (random.nextInt(8) != 0) due("wipe", x.wipe(), m.wipe());
         String text = reelText();
+        // with a fault asked behind each letter, and two calls more
+        if (x.calls() + 2 * text.length() + 2 > CALLS) return;
         boolean eachTime = random.nextInt(4) == 0;
         for (char c : text.toCharArray()) {
             due("write " + c, x.write(c), m.write(c));

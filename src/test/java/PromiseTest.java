@@ -12,23 +12,9 @@ public final class PromiseTest {
         check.due(call, got, want);
     }
 
-    private static CelSheets fresh(String text) {
-        CelSheets x = new CelSheets();
-        tell(x, text);
-        x.reel();
-        return x;
-    }
-
-    private static void tell(CelSheets x, String text) {
-        x.wipe();
-        for (char c : text.toCharArray()) {
-            x.write(c);
-        }
-    }
-
     private static int faultOf(String text) {
-        CelSheets x = new CelSheets();
-        tell(x, text);
+        Desk x = new Desk();
+        x.tell(text);
         return x.fault();
     }
 
@@ -37,23 +23,8 @@ public final class PromiseTest {
     }
 
     private static void dueShort(String items, int want) {
-        CelSheets x = fresh("Kd01d01d01v" + items + ".");
+        Desk x = Desk.of("Kd01d01d01v" + items + ".");
         due("short of " + items, x.level(0, 2), want);
-    }
-
-    /** All that can be asked without changing anything, as one text. */
-    private static String all(CelSheets x) {
-        StringBuilder s = new StringBuilder();
-        for (int i = 0; i < 6; i++) {
-            s.append(x.count(i)).append(' ').append(x.drawing(i, 0)).append(' ').append(x.drawing(i, 1)).append(' ');
-        }
-        for (int f = 0; f < 48; f++) {
-            s.append(x.order(f)).append(' ').append(x.where(9, f)).append(' ');
-            for (int l = 0; l < 4; l++) s.append(x.where(l, f)).append(' ').append(x.exposed(l, f)).append(' ');
-        }
-        long seed = x.seed(0);
-        x.seed(seed);
-        return s.append(x.fault()).append(' ').append(x.which()).append(' ').append(seed).toString();
     }
 
     public static void main(String[] args) {
@@ -88,12 +59,11 @@ public final class PromiseTest {
         keep();
         again();
         count();
-        refusedChangesNothing();
         check.end();
     }
 
     private static void newObject() {
-        CelSheets x = new CelSheets();
+        Desk x = new Desk();
         for (int i = 0; i < 6; i++) due("new count " + i, x.count(i), 0);
         due("new drawing", x.drawing(0, 0), UNKNOWN);
         due("new level", x.level(0, 0), UNKNOWN);
@@ -115,7 +85,7 @@ public final class PromiseTest {
     }
 
     private static void write() {
-        CelSheets x = new CelSheets();
+        Desk x = new Desk();
         due("write 0", x.write(0), 1);
         due("write 255", x.write(255), 2);
         due("write -1", x.write(-1), OUTSIDE);
@@ -129,9 +99,9 @@ public final class PromiseTest {
     }
 
     private static void wipe() {
-        CelSheets x = new CelSheets();
+        Desk x = new Desk();
         due("wipe of none", x.wipe(), 0);
-        tell(x, TWO);
+        x.tell(TWO);
         due("reel", x.reel(), 2);
         due("wipe", x.wipe(), TWO.length());
         due("wipe again", x.wipe(), 0);
@@ -192,7 +162,7 @@ public final class PromiseTest {
     }
 
     private static void reel() {
-        CelSheets x = fresh(TWO);
+        Desk x = Desk.of(TWO);
         due("text stays", x.count(0), TWO.length());
         x.pan(0, 1, 1, 1);
         x.pan(9, 1, 1, 1);
@@ -214,21 +184,21 @@ public final class PromiseTest {
         due("kept is gone", x.again(0), STATE);
         due("seen stays", x.count(5), 1);
         due("seed stays", x.seed(0), 77);
-        tell(x, "Kd01d02d03");
+        x.tell("Kd01d02d03");
         due("no levels", x.reel(), 0);
         due("three drawings", x.count(1), 3);
         due("level is gone", x.level(0, 0), UNKNOWN);
-        tell(x, "Kd");
+        x.tell("Kd");
         due("reel with a fault", x.reel(), STATE);
         due("drawings are as they were", x.count(1), 3);
-        tell(x, "Kv-9(-9-9)9.");
+        x.tell("Kv-9(-9-9)9.");
         due("one level", x.reel(), 1);
         due("drawing is gone", x.drawing(0, 0), UNKNOWN);
         due("cut off", x.level(0, 0), 48);
     }
 
     private static void drawing() {
-        CelSheets x = fresh(TWO);
+        Desk x = Desk.of(TWO);
         due("x", x.drawing(1, 0), 2);
         due("width", x.drawing(1, 1), 2);
         due("most", x.drawing(1, 2), 1);
@@ -238,13 +208,13 @@ public final class PromiseTest {
         due("less than 0", x.drawing(-1, 9), UNKNOWN);
         due("what 3", x.drawing(0, 3), OUTSIDE);
         due("what -1", x.drawing(0, -1), OUTSIDE);
-        CelSheets y = fresh("Kd01d01va9.v(a1-1)2.v-2a1.");
+        Desk y = Desk.of("Kd01d01va9.v(a1-1)2.v-2a1.");
         due("three levels", y.drawing(0, 2), 3);
         due("never exposed", y.drawing(1, 2), 0);
     }
 
     private static void level() {
-        CelSheets x = fresh(TWO);
+        Desk x = Desk.of(TWO);
         due("long", x.level(0, 0), 6);
         due("delay", x.level(0, 1), 0);
         x.delay(0, 7);
@@ -255,7 +225,7 @@ public final class PromiseTest {
         due("less than 0", x.level(LOW, 9), UNKNOWN);
         due("what 4", x.level(1, 4), OUTSIDE);
         due("what -1", x.level(1, -1), OUTSIDE);
-        due("long of loops", fresh("Kd01v((a1-2)3a1)2-1.").level(0, 0), 21);
+        due("long of loops", Desk.of("Kd01v((a1-2)3a1)2-1.").level(0, 0), 21);
     }
 
     private static void shortest() {
@@ -281,18 +251,18 @@ public final class PromiseTest {
         dueShort("a1b1c1a1b1", 10);
         // (((a1b1)2c1)2-1)2 would be 17, but lies too deep; ((a1b1a1b1c1)2-1)2 does not
         dueShort("((a1b1)2c1(a1b1)2c1-1)2", 18);
-        CelSheets x = fresh("Kd01d01v(a1b1)5.");
+        Desk x = Desk.of("Kd01d01v(a1b1)5.");
         due("short", x.level(0, 2), 7);
-        tell(x, "Kd01v.");
+        x.tell("Kd01v.");
         x.reel();
         due("short of another reel", x.level(0, 2), 0);
-        tell(x, "Kd01va1-1.");
+        x.tell("Kd01va1-1.");
         x.reel();
         due("short of a third reel", x.level(0, 2), 4);
     }
 
     private static void best() {
-        CelSheets x = fresh("Kd01va2.va2.");
+        Desk x = Desk.of("Kd01va2.va2.");
         due("best", x.level(1, 3), 2);
         due("delay is not changed", x.level(1, 1), 0);
         due("cels are not changed", x.ask(1), 2);
@@ -301,12 +271,12 @@ public final class PromiseTest {
         due("best, the other delayed", x.level(1, 3), 0);
         x.delay(1, 8);
         due("the least of like ones", x.level(1, 3), 0);
-        due("none helps", fresh("Kd01v(a9)9.va1.").level(1, 3), 0);
-        due("nine", fresh("Kd01va9.va9.").level(0, 3), 9);
+        due("none helps", Desk.of("Kd01v(a9)9.va1.").level(1, 3), 0);
+        due("nine", Desk.of("Kd01va9.va9.").level(0, 3), 9);
     }
 
     private static void where() {
-        CelSheets x = fresh(TWO);
+        Desk x = Desk.of(TWO);
         x.pan(1, -9, -3, 1);
         due("at 0", x.where(1, 0), 991);
         due("at 47", x.where(1, 47), 1000 - 9 - 141);
@@ -322,7 +292,7 @@ public final class PromiseTest {
     }
 
     private static void redraw() {
-        CelSheets x = fresh(TWO);
+        Desk x = Desk.of(TWO);
         due("redraw", x.redraw(1, 9, 5), 22);
         due("redraw again", x.redraw(1, 0, 1), 95);
         due("x", x.drawing(1, 0), 0);
@@ -339,7 +309,7 @@ public final class PromiseTest {
     }
 
     private static void delay() {
-        CelSheets x = fresh(TWO);
+        Desk x = Desk.of(TWO);
         due("delay", x.delay(0, 9), 0);
         due("delay again", x.delay(0, 3), 9);
         due("no such", x.delay(2, 0), UNKNOWN);
@@ -352,7 +322,7 @@ public final class PromiseTest {
     }
 
     private static void pan() {
-        CelSheets x = fresh(TWO);
+        Desk x = Desk.of(TWO);
         due("pan", x.pan(0, 9, 3, 1), 1150);
         due("pan", x.pan(0, -9, -3, 1), 850);
         due("pan", x.pan(0, 0, 1, 9), 1005);
@@ -370,7 +340,7 @@ public final class PromiseTest {
     }
 
     private static void swap() {
-        CelSheets x = fresh(FOUR);
+        Desk x = Desk.of(FOUR);
         due("f 48", x.swap(48, 123), OUTSIDE);
         due("f -1", x.swap(-1, 123), OUTSIDE);
         for (int order : new int[] {0, 122, 124, 12, 1023456, 3211, 10123, -123, LOW, HIGH}) {
@@ -383,17 +353,17 @@ public final class PromiseTest {
         due("fifth", x.swap(0, 123), FULL);
         due("fifth, wrong", x.swap(0, 0), OUTSIDE);
         due("acts", x.count(4), 4);
-        CelSheets one = fresh("Kv.");
+        Desk one = Desk.of("Kv.");
         due("one level", one.swap(3, 0), 1);
         due("one level, 1", one.swap(3, 1), OUTSIDE);
         due("one level, 10", one.swap(3, 10), OUTSIDE);
-        CelSheets none = fresh("K");
+        Desk none = Desk.of("K");
         due("no level", none.swap(3, 0), 1);
         due("no level, 1", none.swap(3, 1), OUTSIDE);
     }
 
     private static void back() {
-        CelSheets x = fresh(TWO);
+        Desk x = Desk.of(TWO);
         due("back of none", x.back(), STATE);
         due("no act", x.count(4), 0);
         x.swap(20, 1);
@@ -406,7 +376,7 @@ public final class PromiseTest {
     }
 
     private static void undo() {
-        CelSheets x = fresh(TWO);
+        Desk x = Desk.of(TWO);
         due("undo of none", x.undo(), STATE);
         x.redraw(0, 7, 1);
         x.delay(1, 3);
@@ -437,7 +407,7 @@ public final class PromiseTest {
     }
 
     private static void exposed() {
-        CelSheets x = fresh(TWO);
+        Desk x = Desk.of(TWO);
         due("a", x.exposed(0, 3), 0);
         due("b", x.exposed(0, 4), 1);
         due("beyond", x.exposed(0, 6), NONE);
@@ -451,13 +421,13 @@ public final class PromiseTest {
         due("camera", x.exposed(9, 0), UNKNOWN);
         due("f 48", x.exposed(0, 48), OUTSIDE);
         due("f -1", x.exposed(0, -1), OUTSIDE);
-        CelSheets y = fresh("Kd01d01d01v((a1b1)2c2)2(b1)3.");
+        Desk y = Desk.of("Kd01d01d01v((a1b1)2c2)2(b1)3.");
         int[] want = {0, 1, 0, 1, 2, 2, 0, 1, 0, 1, 2, 2, 1, 1, 1, NONE};
         for (int f = 0; f < want.length; f++) due("loops at " + f, y.exposed(0, f), want[f]);
     }
 
     private static void order() {
-        CelSheets x = fresh(FOUR);
+        Desk x = Desk.of(FOUR);
         due("at first", x.order(0), 123);
         x.swap(20, 3210);
         x.swap(10, 1032);
@@ -469,12 +439,12 @@ public final class PromiseTest {
         due("of like ones the last told", x.order(20), 2301);
         due("f -1", x.order(-1), OUTSIDE);
         due("f 48", x.order(48), OUTSIDE);
-        due("three", fresh("Kv.v.v.").order(0), 12);
-        due("none", fresh("K").order(0), 0);
+        due("three", Desk.of("Kv.v.v.").order(0), 12);
+        due("none", Desk.of("K").order(0), 0);
     }
 
     private static void look() {
-        CelSheets x = fresh(TWO);
+        Desk x = Desk.of(TWO);
         due("left end", x.look(0, 0), 0);
         due("right end", x.look(0, 2), 0);
         due("right of it", x.look(0, 3), NONE);
@@ -502,7 +472,7 @@ public final class PromiseTest {
     }
 
     private static void ask() {
-        CelSheets x = fresh(TWO);
+        Desk x = Desk.of(TWO);
         due("changes", x.ask(0), 3);
         due("cels", x.ask(1), 2);
         x.delay(1, 1);
@@ -510,8 +480,8 @@ public final class PromiseTest {
         due("what 2", x.ask(2), OUTSIDE);
         due("what -1", x.ask(-1), OUTSIDE);
         // the same drawing on another level is something else
-        due("levels count", fresh("Kd01va1.v-1a1.").ask(0), 2);
-        CelSheets y = fresh("Kd05v(a9)9.");
+        due("levels count", Desk.of("Kd01va1.v-1a1.").ask(0), 2);
+        Desk y = Desk.of("Kd05v(a9)9.");
         due("nothing changes", y.ask(0), 0);
         y.pan(9, -9, 3, 1);
         // the camera is at -9, -6, -3, .., so that columns 0 to 4 are in view at frames 0 to 4
@@ -521,7 +491,7 @@ public final class PromiseTest {
     }
 
     private static void judge() {
-        CelSheets x = fresh(TWO);
+        Desk x = Desk.of(TWO);
         x.swap(2, 10);
         due("n 0", x.judge(0, 0), OUTSIDE);
         due("n 5", x.judge(5, 0), OUTSIDE);
@@ -565,11 +535,11 @@ public final class PromiseTest {
         due("delay stays", x.level(1, 1), 0);
         due("switches stay", x.count(3), 1);
         due("acts stay", x.count(4), 1);
-        due("on top without levels", fresh("K").judge(1, 6000), 0);
+        due("on top without levels", Desk.of("K").judge(1, 6000), 0);
     }
 
     private static void see() {
-        CelSheets x = new CelSheets();
+        Desk x = new Desk();
         due("f 48", x.see(48, 0, 0), OUTSIDE);
         due("f -1", x.see(-1, 0, 0), OUTSIDE);
         due("c 10", x.see(0, 10, 0), OUTSIDE);
@@ -588,7 +558,7 @@ public final class PromiseTest {
     }
 
     private static void unsee() {
-        CelSheets x = fresh(TWO);
+        Desk x = Desk.of(TWO);
         due("none", x.unsee(), 0);
         x.see(0, 0, 39);
         x.see(0, 0, 38);
@@ -599,7 +569,7 @@ public final class PromiseTest {
     }
 
     private static void which() {
-        CelSheets x = fresh(TWO);
+        Desk x = Desk.of(TWO);
         due("nothing seen", x.which(), 3);
         x.see(1, 3, NONE);
         due("b", x.which(), 2);
@@ -615,7 +585,7 @@ public final class PromiseTest {
         x.unsee();
         x.see(1, 2, 0);
         due("b on top is rubbed out", x.which(), 2);
-        tell(x, "Kd01d01d01d01d01d01v.");
+        x.tell("Kd01d01d01d01d01d01v.");
         x.reel();
         due("another reel leaves what is seen", x.which(), 0);
         x.unsee();
@@ -623,7 +593,7 @@ public final class PromiseTest {
     }
 
     private static void share() {
-        CelSheets x = fresh(TWO);
+        Desk x = Desk.of(TWO);
         due("share 0 above", x.share(0, true), 27);
         due("share 0 below", x.share(0, false), 2);
         due("share 1 above", x.share(1, true), 19);
@@ -633,17 +603,17 @@ public final class PromiseTest {
         x.pan(9, 9, 0, 1);
         due("nothing in view", x.share(0, true), 0);
         due("nothing in view", x.share(0, false), 1);
-        CelSheets y = fresh("Kd01va1.va1.va1.");
+        Desk y = Desk.of("Kd01va1.va1.va1.");
         due("thirds", y.share(2, true), 1);
         due("thirds", y.share(2, false), 3);
-        CelSheets z = fresh("Kd01v(-8)3a1.v(-8)2-7a1.");
+        Desk z = Desk.of("Kd01v(-8)3a1.v(-8)2-7a1.");
         due("frame 24 is not asked", z.share(0, true), 0);
         due("frame 23 is", z.share(1, true), 1);
-        due("a quarter", fresh(FOUR).share(3, false), 4);
+        due("a quarter", Desk.of(FOUR).share(3, false), 4);
     }
 
     private static void lost() {
-        CelSheets x = fresh(TWO);
+        Desk x = Desk.of(TWO);
         due("two levels above", x.lost(1, 2, 4, true), 21);
         due("two levels below", x.lost(1, 2, 4, false), 25);
         due("one level above", x.lost(1, 0, 4, true), 3);
@@ -661,20 +631,20 @@ public final class PromiseTest {
         due("f -1", x.lost(-1, 2, 1, true), OUTSIDE);
         due("c 10", x.lost(1, 10, 1, true), OUTSIDE);
         due("c -1", x.lost(1, -1, 1, true), OUTSIDE);
-        CelSheets y = fresh(FOUR);
+        Desk y = Desk.of(FOUR);
         due("four levels above", y.lost(0, 0, 3, true), 9919);
         due("four levels below", y.lost(0, 0, 3, false), 10000);
     }
 
     private static void seed() {
-        CelSheets x = new CelSheets();
+        Desk x = new Desk();
         due("seed", x.seed(Long.MIN_VALUE), 0);
         due("seed", x.seed(Long.MAX_VALUE), Long.MIN_VALUE);
         due("seed", x.seed(0), Long.MAX_VALUE);
     }
 
     private static void looks() {
-        CelSheets x = fresh("Kd05d55v(a9)9.v(b9)9.");
+        Desk x = Desk.of("Kd05d55v(a9)9.v(b9)9.");
         due("m 0", x.looks(0), OUTSIDE);
         due("m 41", x.looks(41), OUTSIDE);
         due("seed stays", x.seed(0), 0);
@@ -683,7 +653,7 @@ public final class PromiseTest {
         due("one", x.looks(1), 1);
         due("seed went on", x.seed(0), 1442695040888963407L);
         // (int) (1442695040888963407L >>> 33) is 167951807: frame 47, window 5
-        CelSheets y = fresh("Kd51v(-9)5-2a1.");
+        Desk y = Desk.of("Kd51v(-9)5-2a1.");
         due("just there", y.looks(1), 1);
         y.redraw(0, 6, 1);
         y.seed(0);
@@ -696,7 +666,7 @@ public final class PromiseTest {
     }
 
     private static void keep() {
-        CelSheets x = fresh(TWO);
+        Desk x = Desk.of(TWO);
         due("slot 2", x.keep(2), UNKNOWN);
         due("slot -1", x.keep(-1), UNKNOWN);
         x.swap(1, 10);
@@ -712,7 +682,7 @@ public final class PromiseTest {
     }
 
     private static void again() {
-        CelSheets x = fresh(TWO);
+        Desk x = Desk.of(TWO);
         due("slot 2", x.again(2), UNKNOWN);
         due("slot -1", x.again(-1), UNKNOWN);
         due("none kept", x.again(0), STATE);
@@ -748,7 +718,7 @@ public final class PromiseTest {
     }
 
     private static void count() {
-        CelSheets x = fresh(TWO);
+        Desk x = Desk.of(TWO);
         x.swap(0, 10);
         x.swap(0, 1);
         x.swap(0, 10);
@@ -759,48 +729,5 @@ public final class PromiseTest {
         due("what 6", x.count(6), OUTSIDE);
         due("what -1", x.count(-1), OUTSIDE);
         due("what LOW", x.count(LOW), OUTSIDE);
-    }
-
-    private static void refusedChangesNothing() {
-        CelSheets x = fresh(TWO);
-        x.pan(9, 2, 1, 5);
-        x.pan(1, -1, 1, 7);
-        x.delay(1, 2);
-        for (int i = 0; i < 4; i++) x.swap(10 * i, i % 2 == 0 ? 10 : 1);
-        for (int i = 0; i < 6; i++) x.see(i, 0, x.look(i, 0));
-        x.seed(4711);
-        x.write('x');
-        String before = all(x);
-        for (int bad : new int[] {LOW, -10, -1, 100, 256, HIGH}) {
-            x.write(bad < 0 ? bad : bad + 256);
-            x.drawing(bad, 0);
-            x.level(bad, 3);
-            x.redraw(bad, 0, 1);
-            x.redraw(0, bad, 1);
-            x.redraw(0, 0, bad);
-            x.delay(bad, 0);
-            x.delay(0, bad);
-            x.pan(bad, 0, 0, 1);
-            x.pan(0, bad == -1 ? -10 : bad, 0, 1);
-            x.pan(0, 0, bad == -1 ? -4 : bad, 1);
-            x.pan(9, 0, 0, bad);
-            x.swap(bad, 10);
-            x.swap(0, bad);
-            x.judge(bad, 7000);
-            x.see(bad, 0, 0);
-            x.see(0, bad, 0);
-            x.see(0, 0, bad);
-            x.looks(bad);
-            x.keep(bad);
-            x.again(bad);
-        }
-        x.swap(0, 10);
-        x.see(0, 0, 0);
-        x.reel();
-        x.again(0);
-        x.judge(4, 1009419570007000L);
-        x.ask(0);
-        x.level(0, 3);
-        check.holds("what is refused or asked changes nothing", before.equals(all(x)));
     }
 }

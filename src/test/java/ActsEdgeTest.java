@@ -24,6 +24,9 @@ public final class ActsEdgeTest {
         theLastOneIsUndone();
         undoneAtTheEdges();
         undoneBackIsLastToldAgain();
+        undoneIsAsItWas();
+        manyUndoneAreAsItWas();
+        forgottenOnesOfEachKind();
         forgottenSwitchesStay();
         forgottenBacksStay();
         refusedIsNoAct();
@@ -301,6 +304,76 @@ public final class ActsEdgeTest {
         due("P12 full", x.swap(0, 12), FULL);
         due("P13 the last told goes first", x.back(), 3);
         due("P16 ahead of it", x.order(4), 12);
+    }
+
+    /** An ACT and its undoing leave all as it was, the other ACTS in the row, too. */
+    private static void undoneIsAsItWas() {
+        for (int drawing = 0; drawing < 6; drawing++) {
+            int d = drawing;
+            undone("P14 redraw " + d, x -> x.redraw(d, 7, 4));
+        }
+        for (int level = 0; level < 4; level++) {
+            int l = level;
+            undone("P14 delay " + l, x -> x.delay(l, 9));
+            undone("P14 pan " + l, x -> x.pan(l, 9, 3, 1));
+        }
+        undone("P14 pan of the camera", x -> x.pan(9, -9, -3, 9));
+        undone("P14 swap at 0", x -> x.swap(0, 2013));
+        undone("P14 swap at 47", x -> x.swap(47, 2013));
+        undone("P14 back", x -> x.back());
+    }
+
+    private static void undone(String what, Edges.Call act) {
+        edges.unchanged(what, Edges.SOME_ACTS, x -> {
+            edges.holds(what + " is done", act.on(x) >= 0);
+            return x.undo();
+        }, 5);
+    }
+
+    /** Nine ACTS more make 14, and all nine can be undone. */
+    private static void manyUndoneAreAsItWas() {
+        edges.unchanged("P14 nine undone", Edges.SOME_ACTS, x -> {
+            x.swap(3, 2013);
+            x.back();
+            x.back();
+            x.redraw(2, 0, 5);
+            x.delay(2, 0);
+            x.pan(2, 0, 0, 1);
+            x.pan(9, 0, 0, 1);
+            x.swap(5, 132);
+            x.delay(2, 9);
+            edges.due("P29 14", x.count(4), 14);
+            for (int i = 0; i < 8; i++) x.undo();
+            return x.undo();
+        }, 5);
+    }
+
+    /** Of 20 acts of all kinds the last 14 are undone one by one, each to what was ahead of it. */
+    private static void forgottenOnesOfEachKind() {
+        Desk x = Desk.of("Kd01d01va1.v.");
+        int[][] told = new int[21][];
+        told[0] = standing(x);
+        for (int i = 1; i <= 20; i++) {
+            switch (i % 5) {
+                case 0: x.redraw(i % 2, i % 10, 1 + i % 4); break;
+                case 1: x.delay(i % 2, i % 9 + 1); break;
+                case 2: x.pan(i % 2 == 0 ? 9 : 0, i % 10, 1, 1 + i % 3); break;
+                case 3: x.swap(i, i % 2 == 0 ? 10 : 1); break;
+                default: x.pan(1, -(i % 10), -1, 1 + i % 3); break;
+            }
+            told[i] = standing(x);
+        }
+        for (int i = 19; i >= 6; i--) {
+            due("P14 left", x.undo(), i - 6);
+            int[] now = standing(x);
+            for (int k = 0; k < now.length; k++) due("P14 number " + k + " ahead of act " + (i + 1), now[k], told[i][k]);
+        }
+        due("P14 six are forgotten", x.undo(), STATE);
+    }
+
+    private static int[] standing(Desk x) {
+        return new int[] {x.drawing(0, 0), x.drawing(0, 1), x.drawing(1, 0), x.drawing(1, 1), x.level(0, 1), x.level(1, 1),
+            x.where(0, 47), x.where(1, 47), x.where(9, 47), x.count(3), x.order(47)};
     }
 
     private static void forgottenSwitchesStay() {

@@ -23,6 +23,7 @@ public final class AskedEdgeTest {
         columnsFarOff();
         theFirstInOrder();
         highestAndLowestSeen();
+        oneDrawingOnUnlikeLevels();
         changesOfNoneAndAll();
         changesAtTheFirstAndLast();
         changesInOneWindow();
@@ -208,6 +209,19 @@ public final class AskedEdgeTest {
         due("P17 lowest", x.look(0, 0), 0);
         due("P17 highest", x.look(1, 0), 35);
         due("P17 nothing", x.look(2, 0), NONE);
+    }
+
+    /** "A DRAWING told twice by ITEMS of unlike LEVELS is one and the same." */
+    private static void oneDrawingOnUnlikeLevels() {
+        Desk x = Desk.of("Kd01va1.v-1a1.");
+        x.redraw(0, 9, 5);
+        due("P17 drawn anew on the one", x.look(0, 9), 0);
+        due("P17 and on the other", x.look(1, 9), 10);
+        due("P17 not where it was", x.look(1, 0), NONE);
+        due("P18 one cel", x.ask(1), 1);
+        x.see(0, 9, NONE);
+        x.see(1, 9, NONE);
+        due("P22 rubbed out on both", x.which(), 1);
     }
 
     // ---- CHANGES

@@ -45,6 +45,20 @@ final class Edges {
         busy(x, 4, 6, LONGEST, true);
         x.again(1);
     };
+    /** As GONE_ON, three switches and five acts. */
+    static final Setup SOME_ACTS = x -> {
+        GONE_ON.on(x);
+        x.back();
+        x.delay(2, 4);
+        x.pan(2, -3, 2, 6);
+        x.pan(9, 2, -1, 7);
+        x.redraw(2, 6, 2);
+    };
+    /** As GONE_ON, and kept so in slot 0, too. */
+    static final Setup KEPT_TWICE = x -> {
+        GONE_ON.on(x);
+        x.keep(0);
+    };
     /** As BUSY, with a text that is no reel. */
     static final Setup FAULTY = x -> busy(x, 4, 6, "Kd11d25va1.vb", true);
 

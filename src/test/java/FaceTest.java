@@ -83,6 +83,10 @@ public final class FaceTest {
         while (library.find()) {
             check.holds("library: " + library.group(), Set.of("System.arraycopy", "Math.max", "Math.min").contains(library.group()));
         }
+        for (String line : code.split("\n")) {
+            boolean made = line.matches(".*\\bnew\\b.*");
+            check.holds("made with the object, not by a call: " + line, !made || line.matches(" +(private )?final \\w+(\\[])? \\w+ = new .*"));
+        }
         methodsAreShort(code);
     }
 

@@ -89,7 +89,7 @@ public final class KeptEdgeTest {
         x.pan(1, 1, 1, 1);
         x.pan(9, 1, 1, 1);
         for (int i = 0; i < 3; i++) x.back();
-        x.swap(0, 10);
+        for (int i = 0; i < 4; i++) x.swap(20 + i, i % 2 == 0 ? 1 : 10);
         due("P28 three", x.again(1), 3);
         due("P6 X", x.drawing(1, 0), 8);
         due("P6 WIDTH", x.drawing(1, 1), 4);
@@ -232,8 +232,27 @@ public final class KeptEdgeTest {
         // BUSY kept in slot 1 ahead of its last acts, GONE_ON is just what slot 1 keeps
         edges.unchanged("P27 kept as it is kept already", Edges.GONE_ON, x -> x.keep(1), 4);
         edges.unchanged("P28 gone on from where it is", Edges.GONE_ON, x -> x.again(1), 4);
+        for (int slot = 0; slot < 2; slot++) {
+            int s = slot;
+            edges.unchanged("P28 whatever was done", Edges.KEPT_TWICE, x -> {
+                doAll(x);
+                return x.again(s);
+            }, 4);
+        }
         edges.changed("P27 kept anew", Edges.BUSY, x -> x.keep(1));
         edges.changed("P28 gone on", Edges.BUSY, x -> x.again(1));
+    }
+
+    /** Each number that can be told is told anew. */
+    private static void doAll(Calls x) {
+        for (int d = 0; d < 6; d++) x.redraw(d, 7, 1 + d % 2);
+        for (int level = 0; level < 4; level++) {
+            x.delay(level, 8);
+            x.pan(level, 5, -2, 4);
+        }
+        x.pan(9, 3, 2, 3);
+        for (int i = 0; i < 4; i++) x.back();
+        for (int i = 0; i < 4; i++) x.swap(5 + 11 * i, i % 2 == 0 ? 132 : 2130);
     }
 
     // ---- count

@@ -25,12 +25,14 @@ public final class ReelEdgeTest {
         whateverCameBehind();
         itsLengthSetAside();
         onlyNotAtItsEnd();
+        readAnewEachTime();
         beyond48IsCutOff();
         beyond48WithinLoops();
         aLevelBehindTheCut();
         wipeEmptiesTheTextAlone();
         theTextStaysAsItIs();
         asAtFirstByAReel();
+        eachOneAsAtFirstByAReel();
         seenAndSeedStay();
         anotherReelIsWhole();
         drawingOfSix();
@@ -39,6 +41,7 @@ public final class ReelEdgeTest {
         shortOfOneDrawing();
         shortOfLoops();
         shortNoDeeperThanTwo();
+        shortOfHoldsWithin();
         shortTellsOfJustTheFrames();
         shortOfNothing();
         bestOfLikeOnes();
@@ -257,6 +260,22 @@ public final class ReelEdgeTest {
         for (int i = 0; i <= text.length(); i++) dueFault(text.substring(0, i), want[i]);
     }
 
+    /** What an earlier text left open is not open in the next one. */
+    private static void readAnewEachTime() {
+        Desk x = new Desk();
+        String[] texts = {"Kd01v((a1", "Kv-1.", "Kd01v(", "Kv((-1)2)2.", "Kv.v.v.v.v", "Kv.v.v.v.", "Kd0", "Kd95va1.", "Kv(-", "Kva1."};
+        int[] want = {9, NONE, 6, NONE, 9, NONE, 3, NONE, 4, 2};
+        for (int i = 0; i < texts.length; i++) {
+            x.tell(texts[i]);
+            due("P4 behind another text: " + texts[i], x.fault(), want[i]);
+            due("P4 asked twice: " + texts[i], x.fault(), want[i]);
+            due("P5 " + texts[i], x.reel() == STATE ? 1 : 0, want[i] == NONE ? 0 : 1);
+        }
+        due("P29 the last reel", x.count(2), 1);
+        due("P29 the last reel", x.count(1), 1);
+        due("P6 the last reel", x.drawing(0, 0), 9);
+    }
+
     // ---- "what is beyond 48 is cut off"
 
     private static void beyond48IsCutOff() {
@@ -353,9 +372,25 @@ public final class ReelEdgeTest {
         due("P5 nothing to undo", x.undo(), STATE);
         due("P5 what was kept is gone, 0", x.again(0), STATE);
         due("P5 what was kept is gone, 1", x.again(1), STATE);
-        // at EVERY 1 a BY shows at frame 1
-        x.pan(0, 0, 1, 1);
-        due("P5 a pan told anew", x.where(0, 1), 1001);
+    }
+
+    private static void eachOneAsAtFirstByAReel() {
+        Desk x = Desk.of(SIX + "v.v.v.v.");
+        for (int d = 0; d < 6; d++) x.redraw(d, 3 + d, 2 + d % 4);
+        for (int level = 0; level < 4; level++) {
+            x.delay(level, 9 - level);
+            x.pan(level, level - 9, 3, 1);
+        }
+        x.pan(9, 4, 1, 1);
+        due("P5 levels", x.reel(), 4);
+        for (int d = 0; d < 6; d++) due("P5 X and WIDTH of " + d, x.redraw(d, 0, 1), 1);
+        for (int level = 0; level < 4; level++) {
+            due("P5 DELAY of " + level, x.level(level, 1), 0);
+            due("P5 PAN of " + level + " at 0", x.where(level, 0), 1000);
+            due("P5 PAN of " + level + " at 47", x.where(level, 47), 1000);
+        }
+        due("P5 the camera's at 0", x.where(9, 0), 1000);
+        due("P5 the camera's at 47", x.where(9, 47), 1000);
     }
 
     private static void seenAndSeedStay() {
@@ -476,6 +511,28 @@ public final class ReelEdgeTest {
         dueShort("a1b1a1b1a1b1c1a1b1a1b1a1b1c1", 12);
         // ((a1b1a1b1c1)2-1)2, as (((a1b1)2c1)2-1)2 with 17 letters lies too deep
         dueShort("((a1b1)2c1(a1b1)2c1-1)2", 18);
+    }
+
+    /** Items within a ( within a ( hold for 9 FRAMES at most, too. */
+    private static void shortOfHoldsWithin() {
+        // ((a2b1)3c1)2
+        dueShort("((a2b1)3c1)2", 12);
+        dueShort("a2b1a2b1a2b1c1a2b1a2b1a2b1c1", 12);
+        // ((a9b1)2c1)2, and ((a9a1b1)2c1)2 as no figure is 10
+        dueShort("((a9b1)2c1)2", 12);
+        dueShort("((a9a1b1)2c1)2", 14);
+        dueShort("((a8a1b1)2c1)2", 12);
+        dueShort("((b1a9)2c1)2", 12);
+        dueShort("((b1a9a1)2c1)2", 14);
+        dueShort("((-2b2)3c3)2", 12);
+        // ((a3b1)4)3 and ((a1b3)4)3: a loop that is all of a loop
+        dueShort("((a3b1)4)3", 10);
+        dueShort("((a1b3)4)3", 10);
+        // SHORT of one level does not hang on that of another
+        Desk x = Desk.of("Kd01d01v(a8)6.va1b2.v(a1b1)9.va1b1a1.");
+        int[] want = {5, 4, 7, 6};
+        for (int level = 0; level < 4; level++) due("P7 SHORT of " + level, x.level(level, 2), want[level]);
+        for (int level = 3; level >= 0; level--) due("P7 SHORT of " + level + " again", x.level(level, 2), want[level]);
     }
 
     /** "ITEMS that tell of more FRAMES than LONG are not asked, though what is beyond 48 would be cut off". */
